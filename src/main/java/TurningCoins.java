@@ -678,9 +678,8 @@ public final class TurningCoins {
         }
     }
 
-    /** The set behind another one, by number, among the sets of some coins. */
-    private static int nextSet(int set, int coins) {
-        return (set - coins) & coins;
+    private static boolean holds(int set, int coin) {
+        return (set >> coin & 1) == 1;
     }
 
     private static final class Coin {
@@ -859,7 +858,7 @@ public final class TurningCoins {
         int worthOf(int set) {
             int worth = 0;
             for (int c = 0; c < coinCount; c++) {
-                if ((set >> c & 1) == 1) {
+                if (holds(set, c)) {
                     worth += coins[c].worthNow();
                 }
             }
@@ -869,7 +868,7 @@ public final class TurningCoins {
         int worthIfTurned(int set) {
             int worth = 0;
             for (int c = 0; c < coinCount; c++) {
-                if ((set >> c & 1) == 1) {
+                if (holds(set, c)) {
                     worth += coins[c].worthPaidTo(coins[c].purse);
                 }
             }
@@ -878,7 +877,7 @@ public final class TurningCoins {
 
         void paySet(int set, int to) {
             for (int c = 0; c < coinCount; c++) {
-                if ((set >> c & 1) == 1) {
+                if (holds(set, c)) {
                     coins[c].payTo(to);
                 }
             }
@@ -960,7 +959,7 @@ public final class TurningCoins {
             width = WORDS;
             startRow();
             for (int c = 0; c < land.coinCount; c++) {
-                if ((coins >> c & 1) == 1) {
+                if (holds(coins, c)) {
                     spread(rows[0], rows[0], land.coins[c].worthNow());
                 }
             }
@@ -1008,7 +1007,7 @@ public final class TurningCoins {
             }
             size = 0;
             for (int c = 0; c < land.coinCount; c++) {
-                if ((coins >> c & 1) == 1) {
+                if (holds(coins, c)) {
                     numbers[size] = c;
                     asIs[size] = land.coins[c].worthNow();
                     otherWay[size] = land.coins[c].worthOtherWay();
@@ -1078,10 +1077,13 @@ public final class TurningCoins {
         private static final long NO_RANK = 1L << 60;
         private static final int MOST_GAIN = 2 * MOST_SUM;
 
+        /** All sets of the coins at hand, by number, and the total of each. */
+        private final int[] sets = new int[SETS];
+        private final int[] totals = new int[SETS];
+        private int setCount = 0;
         /** Of each coin what it adds to a set's total. */
         private final int[] each = new int[COINS];
-        private final int[] totals = new int[SETS];
-        /** Of each coin what it takes from the purse that it leaves or, below 0, brings to that where it comes. */
+        /** Of each coin what one purse loses as it changes purses (below 0: what it gains), and the other one. */
         private final int[] loss = new int[COINS];
         private final int[] otherLoss = new int[COINS];
         int given = 0;
@@ -1093,65 +1095,53 @@ public final class TurningCoins {
             for (int c = 0; c < land.coinCount; c++) {
                 each[c] = land.coins[c].worthNow();
             }
-            addUp(coins);
-            int sets = 1 << Integer.bitCount(coins);
-            int set = 0;
-            for (int i = 0; i < sets; i++) {
-                if (totals[set] == v) {
-                    return set;
+            listSets(coins);
+            for (int i = 0; i < setCount; i++) {
+                if (totals[i] == v) {
+                    return sets[i];
                 }
-                set = nextSet(set, coins);
             }
             return NOTHING;
         }
 
         /** How many ways some coins can lie in that are worth v or more. */
         int waysWorth(Land land, int coins, int v) {
-            int missing = v - land.worthOf(coins);
             for (int c = 0; c < land.coinCount; c++) {
                 each[c] = land.coins[c].worthOtherWay() - land.coins[c].worthNow();
             }
-            addUp(coins);
-            int sets = 1 << Integer.bitCount(coins);
-            int set = 0;
+            listSets(coins);
+            int missing = v - land.worthOf(coins);
             int ways = 0;
-            for (int i = 0; i < sets; i++) {
-                if (totals[set] >= missing) {
+            for (int i = 0; i < setCount; i++) {
+                if (totals[i] >= missing) {
                     ways++;
                 }
-                set = nextSet(set, coins);
             }
             return ways;
         }
 
         int fewestCoins(Land land, int from, int to, int v) {
-            int coins = weigh(land, from, to);
-            int sets = 1 << Integer.bitCount(coins);
-            int set = 0;
+            weigh(land, from, to);
             int fewest = COINS + 1;
-            for (int i = 0; i < sets; i++) {
-                if (totals[set] == v) {
-                    fewest = Math.min(fewest, Integer.bitCount(set));
+            for (int i = 0; i < setCount; i++) {
+                if (totals[i] == v) {
+                    fewest = Math.min(fewest, Integer.bitCount(sets[i]));
                 }
-                set = nextSet(set, coins);
             }
             return fewest <= COINS ? fewest : NOTHING;
         }
 
         /** Whether there is a payment; given, back and amount (its cost) are those of the best one then. */
         boolean findPayment(Land land, int from, int to, int v) {
-            int coins = weigh(land, from, to);
+            weigh(land, from, to);
             int mine = land.coinsIn(from);
-            int sets = 1 << Integer.bitCount(coins);
-            int set = 0;
             long best = NO_RANK;
-            for (int i = 0; i < sets; i++) {
-                if (totals[set] == v) {
-                    // The rank tells all that counts, what counts most highest up.
-                    long rank = (totalOf(loss, set) + MOST_SUM) * 16L + Integer.bitCount(set);
-                    best = Math.min(best, withSets(rank, set & mine, set & ~mine));
+            for (int i = 0; i < setCount; i++) {
+                if (totals[i] == v) {
+                    // Of two payments the better one has the lower rank: what counts first stands highest in it.
+                    long rank = (totalOf(loss, sets[i]) + MOST_SUM) * 16L + Integer.bitCount(sets[i]);
+                    best = Math.min(best, withSets(rank, sets[i] & mine, sets[i] & ~mine));
                 }
-                set = nextSet(set, coins);
             }
             if (best == NO_RANK) {
                 return false;
@@ -1163,19 +1153,14 @@ public final class TurningCoins {
 
         /** Whether there is a change that gains; given, back and amount (the gain) are those of the best one then. */
         boolean findChange(Land land, int one, int other) {
-            int coins = weigh(land, one, other);
+            weigh(land, one, other);
             int mine = land.coinsIn(one);
-            int sets = 1 << Integer.bitCount(coins);
-            int set = 0;
             long best = NO_RANK;
-            for (int i = 0; i < sets; i++) {
-                if (totals[set] == 0) {
-                    int gained = gainOf(set);
-                    if (gained > 0) {
-                        best = Math.min(best, withSets(MOST_GAIN - gained, set & mine, set & ~mine));
-                    }
+            for (int i = 0; i < setCount; i++) {
+                int gained = totals[i] == 0 ? gainOf(sets[i]) : 0;
+                if (gained > 0) {
+                    best = Math.min(best, withSets(MOST_GAIN - gained, sets[i] & mine, sets[i] & ~mine));
                 }
-                set = nextSet(set, coins);
             }
             if (best == NO_RANK) {
                 return false;
@@ -1201,8 +1186,8 @@ public final class TurningCoins {
             back = (int) (rank % SETS);
         }
 
-        /** Fills the rows for two purses: a set's total is what is given less what comes back. The coins of both. */
-        private int weigh(Land land, int from, int to) {
+        /** Lists the sets of the coins of two purses: a total is what is given less what comes back. */
+        private void weigh(Land land, int from, int to) {
             int coins = 0;
             for (int c = 0; c < land.coinCount; c++) {
                 Coin coin = land.coins[c];
@@ -1219,25 +1204,29 @@ public final class TurningCoins {
                     otherLoss[c] = worth;
                 }
             }
-            addUp(coins);
-            return coins;
+            listSets(coins);
         }
 
-        /** Totals of all sets of some coins; a set without its lowest coin comes ahead of it. */
-        private void addUp(int coins) {
+        /** Each coin doubles the sets: those without it, then those with it, so they stay in the order of numbers. */
+        private void listSets(int coins) {
+            sets[0] = 0;
             totals[0] = 0;
-            int sets = 1 << Integer.bitCount(coins);
-            int set = 0;
-            for (int i = 1; i < sets; i++) {
-                set = nextSet(set, coins);
-                totals[set] = totals[set & (set - 1)] + each[Integer.numberOfTrailingZeros(set)];
+            setCount = 1;
+            for (int c = 0; c < COINS; c++) {
+                if (holds(coins, c)) {
+                    for (int i = 0; i < setCount; i++) {
+                        sets[setCount + i] = sets[i] | 1 << c;
+                        totals[setCount + i] = totals[i] + each[c];
+                    }
+                    setCount *= 2;
+                }
             }
         }
 
         private static int totalOf(int[] row, int set) {
             int total = 0;
             for (int c = 0; c < COINS; c++) {
-                if ((set >> c & 1) == 1) {
+                if (holds(set, c)) {
                     total += row[c];
                 }
             }
