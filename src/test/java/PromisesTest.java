@@ -581,17 +581,23 @@ public final class PromisesTest {
             of 2 1 = 1
             of 3 1 = 0
             """);
-        Script.run("23 deals: one behind the other, 20 at most", """
-            coin 4 5 5 = 0        # never gains
+        Script.run("23 deals: one behind the other", """
+            coin 4 5 5 = 0
+            deals 0 1 = 0         # it never gains
+            change 0 0 0 = 4
+            change 0 3 8 = 5
+            coin 0 5 6 = 1
+            coin 0 3 9 = 2
+            coin 2 9 9 = 3
+            change 1 1 1 = 0
+            change 3 1 1 = 0
+            deals 0 1 = 2
+            deals 1 0 = 2
+            count 3 = 0
+            deal 0 1 = 4          # 5 for 5: 8 and 6
+            deal 0 1 = 5          # 6 + 3 for 9: 5 + 9, and 9
+            deal 0 1 = NONE
             deals 0 1 = 0
-            change 0 0 6 = 4
-            change 0 2 99 = 5
-            change 0 3 99 = 5
-            deals 0 3 = 0
-            coin 0 0 1 = 1
-            deals 0 2 = 1
-            turn 1 = 1
-            deals 0 2 = 0
             """);
         Script.run("24 partner: of as much gain the least purse", """
             coin 0 0 3 = 0
@@ -695,6 +701,30 @@ public final class PromisesTest {
             coin 0 0 4 = 2
             flip 0 4 = 4          # one coin; 3 would be two
             flip 0 3 = 1
+            """);
+        Script.run("18 fewest, 26 flip, 45 strike: of all ten coins", """
+            'coin0 1;coin0 1;coin0 1;coin0 1;coin0 1;coin0 1;coin0 1;coin0 1;coin0 1;coin0 1' = 10
+            flip 0 9 = 511
+            flip 0 10 = 1023
+            flip 0 11 = NONE
+            sheet 0 8 2 = 2
+            write 0 0 10 = 1
+            strike 0 0 = 1023
+            fewest 0 1 10 = NONE
+            there 0 1 = 0
+            sheet 1 8 10 = 10
+            write 1 0 1 = 1
+            copy 1 0 1 1 1 = 1
+            copy 1 0 1 2 2 = 2
+            copy 1 0 1 4 4 = 4
+            copy 1 0 1 8 2 = 2
+            load 1 = 10
+            fewest 0 1 10 = 10
+            fewest 0 1 9 = 9
+            given 0 1 10 = 1023
+            buy 0 1 10 = 10
+            sum 1023 = 0
+            flip 1 10 = 1023
             """);
         Script.run("27 highest, 28 wrong", """
             highest 0 = 0
