@@ -1030,8 +1030,8 @@ public final class PromisesTest {
     }
 
     private static void faults() {
-        Script.run("38 text: faults", """
-            '' = -1
+        Script.each("38 text: faults", "", """
+            text = -1
             '   ' = -4
             'coin' = -5
             'coin ' = -6
@@ -1095,7 +1095,6 @@ public final class PromisesTest {
             'coin 1 2;pay 0 to 1 ship' = -21
             'coin 1 2;pay 0 to 1;pay 0 to 1' = -30
             'coin 1 2;pay coin to 1' = -14
-            count 1 = 0
             'coin 1 2;pay 0 to 1;pay 0 to 0' = 3
             """);
         Script.run("38 text: bytes of no token", """
