@@ -1,6 +1,5 @@
 import java.lang.reflect.Method;
 import java.util.ArrayList;
-import java.util.Comparator;
 import java.util.List;
 import java.util.Random;
 
@@ -14,10 +13,9 @@ public final class RandomRunsTest {
         100, 999, 1000, 9999, 10000, 1023, 1024, -1000001};
 
     private final Random random;
-    private final TurningCoins coins = new TurningCoins();
-    private final Model model = new Model();
-    private final List<Method> calls = new ArrayList<>();
-    private final StringBuilder told = new StringBuilder();
+    private final Pair pair = new Pair();
+    private final Model model = pair.model;
+    private final List<Method> calls = new ArrayList<>(Pair.face().values());
     /** How high faces of coins go in this run: low ones make many like sums. */
     private final int faces;
     private final boolean isWild;
@@ -26,12 +24,6 @@ public final class RandomRunsTest {
         random = new Random(seed);
         faces = new int[] {3, 8, 20, 99}[seed % 4];
         isWild = seed % 5 == 0;
-        for (Method method : TurningCoins.class.getDeclaredMethods()) {
-            if (java.lang.reflect.Modifier.isPublic(method.getModifiers())) {
-                calls.add(method);
-            }
-        }
-        calls.sort(Comparator.comparing(Method::getName));
     }
 
     public static void main(String[] args) throws ReflectiveOperationException {
@@ -40,7 +32,7 @@ public final class RandomRunsTest {
             RandomRunsTest run = new RandomRunsTest(seed);
             if (!run.agrees()) {
                 wrong++;
-                System.out.println("run " + seed + ":\n" + run.told);
+                System.out.println("run " + seed + ":\n" + run.pair.told());
             }
         }
         System.out.println(wrong == 0 ? "all runs agree" : "runs do not agree");
@@ -77,17 +69,7 @@ public final class RandomRunsTest {
     }
 
     private boolean ask(String name, int... arguments) throws ReflectiveOperationException {
-        Class<?>[] types = new Class<?>[arguments.length];
-        Object[] boxed = new Object[arguments.length];
-        for (int i = 0; i < arguments.length; i++) {
-            types[i] = int.class;
-            boxed[i] = arguments[i];
-        }
-        Object got = TurningCoins.class.getMethod(name, types).invoke(coins, boxed);
-        Object want = Model.class.getMethod(name, types).invoke(model, boxed);
-        told.append(name).append(java.util.Arrays.toString(arguments)).append(" answered ").append(got);
-        told.append(got.equals(want) ? "\n" : ", due is " + want + "\n");
-        return got.equals(want);
+        return pair.ask(name, arguments);
     }
 
     private int[] arguments(Method method) {
@@ -145,19 +127,7 @@ public final class RandomRunsTest {
         if (random.nextInt(6) == 0) {
             text.setLength(random.nextInt(text.length() + 1));
         }
-        if (!ask("wipe")) return false;
-        int at = 0;
-        while (at < text.length()) {
-            int n = Math.min(text.length() - at, 1 + random.nextInt(4));
-            int bytes = 0;
-            for (int i = 0; i < n; i++) {
-                bytes = bytes << 8 | text.charAt(at + i);
-            }
-            if (!ask("feed", bytes, n)) return false;
-            at += n;
-        }
-        told.append("# ").append(text).append('\n');
-        return ask("text");
+        return ask("wipe") && pair.feed(text.toString(), 1 + random.nextInt(4)) && ask("text");
     }
 
     private String item() {

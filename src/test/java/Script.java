@@ -8,12 +8,15 @@ import java.util.Map;
  * Runs lines of calls on a new object: "name arguments = answer", "'a text' = answer" (fed to the tape, then read by
  * text()), "feed 'a text'" (fed alone). What stands behind # is a remark. An answer may be a finding's name.
  *
- * A twin is told the same calls but those that answer a finding. These change nothing but status(), so both must tell
- * the same in the end; and status() must have counted just those findings.
+ * A twin is told the same calls but those that answer a finding and those that only look. These change nothing (but
+ * status()), so both must tell the same in the end; and status() must have counted just those findings.
  */
 final class Script {
     private static final List<String> NAMES =
         List.of("BEYOND", "FULL", "KIND", "NONE", "STATE", "MISSING", "SIZE");
+    /** The calls that may change something. */
+    private static final List<String> ACTS = List.of("coin", "change", "turn", "pay", "there", "buy", "deal", "days",
+        "market", "toss", "seed", "feed", "wipe", "text", "hold", "sheet", "write", "copy", "load", "image", "undo", "tear");
     private static final int BEYOND = -1000001;
     /** What is asked of an object behind this many calls is free. */
     private static final int MOST_CALLS = 512;
@@ -116,7 +119,7 @@ final class Script {
         int got = call(coins, parts);
         if (which >= 0) {
             findings[which]++;
-        } else {
+        } else if (ACTS.contains(parts[0])) {
             call(twin, parts);
         }
         if (got != want) {
@@ -169,7 +172,7 @@ final class Script {
             fail("too many calls: " + calls);
         }
         if (!allOf(coins).equals(allOf(twin))) {
-            fail("a refused call changed something in " + lines);
+            fail("a call that was refused, or only looked, changed something in " + lines);
         }
     }
 
