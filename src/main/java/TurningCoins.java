@@ -1016,26 +1016,26 @@ public final class TurningCoins {
             }
             startRow();
             best = NO_FLIPS;
-            tryFlips(0, 0);
+            tryFlips(this, 0, 0);
             return best == NO_FLIPS ? NOTHING : best % FLIPPED;
         }
 
         /** Tries both sides of each coin from depth on; depth ends at size, which is COINS at most. */
-        private void tryFlips(int depth, int flips) {
-            if (flips >= best) {
+        private static void tryFlips(Reach reach, int depth, int flips) {
+            if (flips >= reach.best) {
                 return;
             }
-            if (depth >= size || depth >= COINS) {
-                if (hasAllWanted(rows[depth])) {
-                    best = flips;
+            if (depth >= reach.size || depth >= COINS) {
+                if (reach.hasAllWanted(reach.rows[depth])) {
+                    reach.best = flips;
                 }
                 return;
             }
-            spread(rows[depth], rows[depth + 1], asIs[depth]);
-            tryFlips(depth + 1, flips);
-            if (otherWay[depth] != asIs[depth]) {
-                spread(rows[depth], rows[depth + 1], otherWay[depth]);
-                tryFlips(depth + 1, flips + FLIPPED + (1 << numbers[depth]));
+            reach.spread(reach.rows[depth], reach.rows[depth + 1], reach.asIs[depth]);
+            tryFlips(reach, depth + 1, flips);
+            if (reach.otherWay[depth] != reach.asIs[depth]) {
+                reach.spread(reach.rows[depth], reach.rows[depth + 1], reach.otherWay[depth]);
+                tryFlips(reach, depth + 1, flips + FLIPPED + (1 << reach.numbers[depth]));
             }
         }
 

@@ -31,6 +31,7 @@ public final class FaceTest {
         for (String fault : faults) {
             System.out.println("not so: " + fault);
         }
+        System.out.println(faults.isEmpty() ? "the face is as due" : "the face is not as due");
         System.exit(faults.isEmpty() ? 0 : 1);
     }
 
